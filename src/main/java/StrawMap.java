@@ -390,7 +390,8 @@ public final class StrawMap {
             counted = present.tree.disksWithin(present.tree.hallOf(d));
         }
         trial.copyFrom(present);
-        tryWeight(d, w);
+        trial.tree.weight[d] = w;
+        trial.settleAll(straws);
         int pairs = 0;
         for (int g = 0; g < GROUPS; g++) {
             pairs += Integer.bitCount(trial.placed[g] & ~present.placed[g] & counted);
@@ -404,7 +405,8 @@ public final class StrawMap {
         }
         trial.copyFrom(present);
         for (int w = 0; w <= MOST_WEIGHT; w++) {
-            tryWeight(d, w);
+            trial.tree.weight[d] = w;
+            trial.settleAll(straws);
             if (trial.countPairs(d) >= n) {
                 return w;
             }
@@ -426,7 +428,8 @@ public final class StrawMap {
                 if (w < 1 || w > MOST_WEIGHT || !present.takesPart(d)) {
                     continue;
                 }
-                tryWeight(d, w);
+                trial.tree.weight[d] = w;
+                trial.settleAll(straws);
                 int spread = trial.spreadOfPairs();
                 if (spread < bestSpread) {
                     bestDisk = d;
@@ -683,12 +686,6 @@ public final class StrawMap {
         epoch = 1;
         data.begin(present);
         observations.number = 0;
-    }
-
-    /** Places all groups in the trial as if the disk had this weight. */
-    private void tryWeight(int d, int w) {
-        trial.tree.weight[d] = w;
-        trial.settleAll(straws);
     }
 
     /** The lengths of straws, which depend on nothing but their three numbers and are kept once computed. */
@@ -1046,7 +1043,8 @@ public final class StrawMap {
 
         /** The hall, the rack or the disk that no other copy may share. */
         private int partOf(int d) {
-            return level == 1 ? tree.hallOf(d) : level == 2 ? tree.above[d] : d;
+            int rack = tree.above[d];
+            return level == 1 ? tree.above[rack] : level == 2 ? rack : d;
         }
 
         private void applyDiversions(int g) {
