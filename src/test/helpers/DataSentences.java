@@ -304,8 +304,9 @@ final class DataSentences extends States {
         says("A call that returns an error changes nothing.", () -> {
             refuses(BAD, States::lived, x -> x.write(31), x -> x.node(-1, 0), x -> x.weigh(10, 41),
                 x -> x.reweigh(10, 17), x -> x.divert(0, 10, 10), x -> x.lift(2), x -> x.rule(0, 1, 1),
-                x -> x.rack(0), x -> x.disk(4, 41, 1), x -> x.move(1, 0), x -> x.back(9), x -> x.put(0, 100), x -> x.tick(9), x -> x.up(10, 2), x -> x.fail(9),
-                x -> x.seen(0, 9, 1), x -> x.storm(0, 31, 0), x -> x.weights(10, 3));
+                x -> x.rack(0), x -> x.disk(4, 41, 1), x -> x.move(1, 0), x -> x.back(9), x -> x.put(0, 100),
+                x -> x.tick(9), x -> x.up(10, 2), x -> x.fail(9), x -> x.seen(0, 9, 1), x -> x.storm(0, 31, 0),
+                x -> x.weights(10, 3));
             refuses(NO, States::lived, StrawMap::lay, x -> x.weigh(10, 7), x -> x.reweigh(14, 9),
                 x -> x.divert(5, 17, 18), x -> x.rule(3, 2, 0), x -> x.move(11, 6), x -> x.back(8), x -> x.up(11, 0));
         });
@@ -865,6 +866,13 @@ final class DataSentences extends States {
         });
     }
 
+    /** The groups of disk 10 if it has this weight in the first map. */
+    private static int groupsWith(int weight) {
+        StrawMap x = new StrawMap();
+        x.weigh(10, weight);
+        return x.groups(10);
+    }
+
     private static void promise42() {
         in("Promise 42");
         says("Finds the weights of a disk, 0 to 40, with which, in place of its own one, all observations would be"
@@ -887,6 +895,25 @@ final class DataSentences extends States {
             }
             are(row(x.weights(10, 0), x.weights(10, 1), x.weights(10, 2)), many, first, last);
             holds(many > 0 && many < 41);
+        });
+        says("in place of its own one, all observations would be true", () -> {
+            // The weights of its rack and its hall follow that of the disk.
+            for (int own : new int[] {0, 1, 7, 40}) {
+                StrawMap x = new StrawMap();
+                int seen = groupsWith(own) & 63;
+                for (int g = 0; g < 6; g++) {
+                    x.seen(g, 10, seen >> g & 1);
+                }
+                int many = 0;
+                int last = NONE;
+                for (int w = 0; w <= 40; w++) {
+                    boolean fits = (groupsWith(w) & 63) == seen;
+                    many += fits ? 1 : 0;
+                    last = fits ? w : last;
+                }
+                are(row(x.weights(10, 0), x.weights(10, 2)), many, last);
+                holds(x.weights(10, 1) <= own && last >= own);
+            }
         });
         says("(everything else being the same).", () -> {
             StrawMap x = of("h;r;d9,9;d0,9;c1,3,0;");

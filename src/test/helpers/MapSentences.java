@@ -924,6 +924,11 @@ final class MapSentences extends States {
             StrawMap x = new StrawMap();
             x.weigh(10, 5);
             changesTheMap(x, y -> y.back(1));
+            // The effect of an override is that by the map that is present again.
+            StrawMap y = new StrawMap();
+            y.divert(0, 12, 13);
+            y.reweigh(13, 0);
+            are(row(y.override(0, 3), y.back(2), y.override(0, 3), y.back(3), y.override(0, 3)), 0, 4, 1, 5, 0);
         });
         says("`epoch`: an epoch", () -> {
             StrawMap x = new StrawMap();

@@ -389,11 +389,10 @@ final class PlacementSentences extends States {
             are(row(x.override(1, 3), x.place(0, 2)), 1, 11);
             x.rule(3, 3, 0);
             x.lift(1);
-            int g = 0;
-            while (!(has(x, g, 12) && has(x, g, 18))) {
-                g++;
-            }
-            x.divert(g, 12, 18);
+            // "to" is another copy.
+            int both = x.groups(12) & x.groups(18);
+            holds(both > 0);
+            x.divert(Integer.numberOfTrailingZeros(both), 12, 18);
             is(x.override(1, 3), 0);
             // With L = 1 it may be in the hall of "from" alone.
             StrawMap y = of("h;r;d9,9;r;d0,9;h;r;d9,9;d0,9;c2,1,0;t24;");
@@ -504,6 +503,10 @@ final class PlacementSentences extends States {
             is(of("h;r;d40,9;h;r;d1,9;c1,3,0;").spread(), 16 - 2 * Integer.bitCount(
                 of("h;r;d40,9;h;r;d1,9;c1,3,0;").groups(11)));
             are(row(of(TWO_ALIKE).spread(), of("h;r;d1,1;").spread()), 0, 0);
+            // The only disk takes part, but is acceptable for no group.
+            StrawMap alone = of("h;r;d9,9;c1,3,0;");
+            alone.reweigh(10, 1);
+            are(row(alone.groups(10), alone.spread()), 0, 0);
         });
         says("0 if no disk takes part.", () -> {
             all(0, of("h;r;d0,9;").spread(), of("h;r;d0,9;d0,9;").spread());
@@ -589,10 +592,14 @@ final class PlacementSentences extends States {
         });
         says("`t`: 0 to 99", () -> {
             refusesAll(BAD, States::lived, new int[] {LOW, -1, 100, HIGH}, (x, t) -> x.chosen(0, t, 0));
-            StrawMap x = new StrawMap();
             // 23 and 24 are the last number of a try and the first that is none.
             for (int t : new int[] {0, 23, 24, 99}) {
-                is(x.chosen(6, t, 0), choiceByHand(x, 6, t, 0));
+                for (int g = 0; g < 16; g++) {
+                    StrawMap x = new StrawMap();
+                    for (int n = 0; n <= 2; n++) {
+                        is(x.chosen(g, t, n), choiceByHand(x, g, t, n));
+                    }
+                }
             }
         });
         says("`n`: a node, not a disk", () -> {
@@ -908,12 +915,10 @@ final class PlacementSentences extends States {
             are(row(groups, Integer.bitCount(x.groups(10)) < 11 ? 1 : 0), 11, 1);
             StrawMap free = of("h;r;d9,9;d5,9;c1,3,0;");
             free.divert(2, 10, 11);
-            int n = 1;
-            while (free.least(11, n) == 0) {
-                n++;
-            }
+            is(free.least(11, 1), 0);
+            holds(free.least(11, 2) > 0);
             free.weigh(11, 0);
-            are(row(n, Integer.bitCount(free.groups(11)), free.least(11, 1)), 2, 1, 0);
+            are(row(Integer.bitCount(free.groups(11)), free.least(11, 1)), 1, 0);
             is(of("h;r;d9,9;c1,3,0;").least(10, 16), 1);
         });
         says("Nothing changes.", () -> changesNothing(States::lived, x -> x.least(10, 16), x -> x.least(18, 1)));

@@ -11,6 +11,7 @@ import java.util.Map;
 class Sentences {
     private static final String[] PARAGRAPHS = {"THE TREE has", "TEXTS.", "STRAWS.", "PLACEMENT.", "EPOCHS.", "DATA.",
         "ERRORS.", "Examples:"};
+    private static final int MOST_TOLD = 100;
     private static final Map<String, String> SECTIONS = new LinkedHashMap<>();
     private static final Map<String, boolean[]> QUOTED = new LinkedHashMap<>();
     private static String section = "";
@@ -120,9 +121,12 @@ class Sentences {
         }
     }
 
+    /** A broken program may give hundreds of thousands of wrong answers, of which the first ones are enough. */
     private static void wrong(String what) {
         wrong++;
-        System.out.println(section + ", \"" + sentence + "\"" + where() + ": " + what);
+        if (wrong <= MOST_TOLD) {
+            System.out.println(section + ", \"" + sentence + "\"" + where() + ": " + what);
+        }
     }
 
     /** The line of the test that asked. */

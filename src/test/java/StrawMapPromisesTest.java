@@ -417,11 +417,6 @@ public final class StrawMapPromisesTest {
         are("wrong wants", all(x.want(0), x.want(65522), x.want(-1), x.want(LOW), x.want(HIGH)),
             BAD, BAD, BAD, BAD, BAD);
         are("a square that is just 131072", all(x.want(46340), x.want(46341)), 2049, 2048);
-        for (int u = 1; u <= 65521; u++) {
-            if (x.want(u) != wanted(u)) {
-                is("want(" + u + ")", x.want(u), wanted(u));
-            }
-        }
     }
 
     private static int wanted(int u) {
@@ -456,15 +451,17 @@ public final class StrawMapPromisesTest {
         for (int t = 0; t < 100; t++) {
             is("the only rack of hall 3", x.chosen(9, t, 3), 8);
             is("the only disk of rack 7", x.chosen(9, t, 7), 16);
-            int lower = x.want(drawn(9, 10, t)) * 2;
-            int higher = x.want(drawn(9, 11, t)) * 4;
+            int lower = wanted(drawn(9, 10, t)) * 2;
+            int higher = wanted(drawn(9, 11, t)) * 4;
             is("by want and weight, try " + t, x.chosen(9, t, 4), higher < lower ? 11 : 10);
         }
         for (int g = 0; g < 16; g++) {
+            x = new StrawMap();
             for (int t = 0; t < 100; t++) {
                 is("at the root, group " + g + ", try " + t, x.chosen(g, t, 0), hallByHand(x, g, t));
             }
         }
+        x = new StrawMap();
         for (int g = 15; g >= 0; g--) {
             is("again, group " + g, x.chosen(g, 0, 0), hallByHand(x, g, 0));
         }
