@@ -275,7 +275,7 @@ public final class StrawMap {
         if (then == null) {
             return BAD;
         }
-        if (then == present || then.tree.racks < present.tree.racks || then.tree.disks < present.tree.disks) {
+        if (epoch == this.epoch || then.tree.racks < present.tree.racks || then.tree.disks < present.tree.disks) {
             return NO;
         }
         beginEpoch(then);
@@ -844,7 +844,8 @@ public final class StrawMap {
 
         int countBelow(int n) {
             int found = 0;
-            for (int m = firstBelow(n); m < endBelow(n); m++) {
+            int end = endBelow(n);
+            for (int m = firstBelow(n); m < end; m++) {
                 if (above[m] == n) {
                     found++;
                 }

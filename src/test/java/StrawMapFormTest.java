@@ -18,14 +18,10 @@ import java.util.regex.Pattern;
  * makes an object. It is run from the project's root.
  */
 public final class StrawMapFormTest {
-    private static final String FACE = "write(1) wipe(0) fault(0) lay(0) node(2) override(2) weigh(2) reweigh(2) "
-        + "refill(0) divert(3) lift(1) rule(3) rack(1) disk(3) move(2) back(1) group(1) draw(3) want(1) chosen(3) "
-        + "place(2) taken(2) groups(1) spread(0) share(2) old(3) since(2) would(3) least(2) even(1) put(2) tick(1) "
-        + "up(2) fail(1) held(2) load(2) loses(2) storm(3) seen(3) forget(0) weights(2) count(1)";
     private static int wrong = 0;
 
-    public static void main(String[] args) throws IOException {
-        face();
+    public static void main(String[] args) throws IOException, IllegalAccessException {
+        face(new Document());
         classesInside();
         source();
         callsMakeNothing();
@@ -40,40 +36,46 @@ public final class StrawMapFormTest {
         System.out.println(what);
     }
 
-    private static void face() {
-        TreeSet<String> due = new TreeSet<>(Arrays.asList(FACE.split(" ")));
+    /** Each method with its types, such as "public int write(int)". */
+    private static String typed(Method m) {
+        StringBuilder types = new StringBuilder();
+        for (Class<?> type : m.getParameterTypes()) {
+            types.append(types.length() == 0 ? "" : ", ").append(type.getName());
+        }
+        return Modifier.toString(m.getModifiers()) + " " + m.getReturnType().getName() + " " + m.getName() + "("
+            + types + ")";
+    }
+
+    private static void face(Document document) throws IllegalAccessException {
+        TreeSet<String> due = new TreeSet<>();
         TreeSet<String> names = new TreeSet<>();
-        for (String entry : due) {
-            names.add(entry.substring(0, entry.indexOf('(')));
+        for (String method : document.methods()) {
+            due.add("public int " + method.replaceAll("int \\w+", "int"));
+            names.add(method.substring(0, method.indexOf('(')));
+        }
+        if (due.size() != 42) {
+            fail("the document's face has " + due.size() + " methods");
         }
         TreeSet<String> got = new TreeSet<>();
-        for (Method m : StrawMap.class.getDeclaredMethods()) {
-            boolean shown = !Modifier.isPrivate(m.getModifiers()) && !m.isSynthetic();
-            if (shown) {
-                got.add(m.getName() + "(" + m.getParameterCount() + ")");
-                boolean ints = m.getReturnType() == int.class && Modifier.isPublic(m.getModifiers());
-                for (Class<?> type : m.getParameterTypes()) {
-                    ints &= type == int.class;
+        for (Class<?> type : classes()) {
+            for (Method m : type.getDeclaredMethods()) {
+                boolean shown = type == StrawMap.class && !Modifier.isPrivate(m.getModifiers());
+                if (shown && !m.isSynthetic()) {
+                    got.add(typed(m));
+                } else if (names.contains(m.getName())) {
+                    fail("not a public method, with a public one's name: " + m);
                 }
-                if (!ints) {
-                    fail("not a public method of ints: " + m);
-                }
-            } else if (names.contains(m.getName())) {
-                fail("a private method with a public one's name: " + m);
             }
         }
         if (!got.equals(due)) {
             fail("the methods are " + got);
         }
-        List<String> constants = new ArrayList<>();
-        for (Field f : StrawMap.class.getDeclaredFields()) {
-            if (!Modifier.isPrivate(f.getModifiers()) && !f.isSynthetic()) {
-                constants.add(f.getName());
-            }
+        List<String> promised = new ArrayList<>(document.methods());
+        promised.add(0, "StrawMap()");
+        if (!promised.equals(document.promised())) {
+            fail("the document promises " + document.promised());
         }
-        if (!constants.equals(List.of("BAD", "NO", "FULL", "NONE"))) {
-            fail("the constants are " + constants);
-        }
+        constants(document);
         Constructor<?>[] made = StrawMap.class.getDeclaredConstructors();
         if (made.length != 1 || made[0].getParameterCount() != 0 || !Modifier.isPublic(made[0].getModifiers())) {
             fail("not just one public constructor");
@@ -83,9 +85,31 @@ public final class StrawMapFormTest {
         }
     }
 
-    private static void classesInside() {
+    private static void constants(Document document) throws IllegalAccessException {
+        List<String> constants = new ArrayList<>();
+        for (Field f : StrawMap.class.getDeclaredFields()) {
+            if (!Modifier.isPrivate(f.getModifiers()) && !f.isSynthetic()) {
+                String kind = Modifier.toString(f.getModifiers()) + " " + f.getType().getName();
+                if (!kind.equals("public static final int")) {
+                    fail("not a public constant of int: " + f);
+                } else {
+                    constants.add(f.getName() + " = " + f.getInt(null));
+                }
+            }
+        }
+        if (!constants.equals(document.constants())) {
+            fail("the constants are " + constants);
+        }
+    }
+
+    private static List<Class<?>> classes() {
         List<Class<?>> all = new ArrayList<>(Arrays.asList(StrawMap.class.getDeclaredClasses()));
         all.add(StrawMap.class);
+        return all;
+    }
+
+    private static void classesInside() {
+        List<Class<?>> all = classes();
         if (all.size() > 12) {
             fail("there are " + all.size() + " classes");
         }

@@ -8,7 +8,6 @@ public final class StrawMapPromisesTest {
     private static int checked = 0;
 
     public static void main(String[] args) {
-        examples();
         theText();
         theTextsFaults();
         layingMaps();
@@ -91,24 +90,6 @@ public final class StrawMapPromisesTest {
             System.out.println("not laid: " + s);
         }
         return x;
-    }
-
-    private static void examples() {
-        StrawMap x = new StrawMap();
-        are("example 1", all(x.group(77), x.draw(3, 10, 0), x.want(40000), x.chosen(3, 0, 0), x.place(3, 0),
-            x.place(3, 1), x.taken(3, 1), x.place(3, 3), x.spread(), x.even(0), x.would(10, 8, 0), x.weigh(10, 8),
-            x.since(1, 0), x.old(1, 3, 0), x.back(1), x.count(8)),
-            10, 37716, 2918, 2, 16, 14, 1, -4, 9, 17, 6, 4, 6, 16, 3, 3);
-        x = new StrawMap();
-        are("example 2", all(x.put(77, 50), x.held(5, 0), x.held(5, 2), x.fail(10), x.count(14), x.tick(3),
-            x.up(10, 1), x.loses(4, 5), x.load(12, 0), x.refill(), x.divert(5, 10, 11), x.override(0, 3),
-            x.storm(9, 12, 0), x.storm(9, 12, 1), x.lift(0), x.share(1, 0)),
-            50, 133, 17, 8, 0, 0, 9, 0, 0, -2, 1, 1, 0, 10, 0, 6);
-        x = new StrawMap();
-        are("example 3", all(x.write(104), x.write(59), x.write(114), x.write(59), x.write(100), x.write(48),
-            x.write(44), x.write(57), x.write(59), x.lay(), x.place(0, 0), x.spread(), x.put(1, 1),
-            x.seen(0, 10, 1), x.weights(10, 1), x.node(4, 3)),
-            1, 2, 3, 4, 5, 6, 7, 8, 9, 1, -4, 0, -2, 1, 1, -1);
     }
 
     private static void theText() {
